@@ -358,30 +358,31 @@ public final class IdentityIssuer {
 
         /** The place in bytes of the first error of the text from .. end - 1, NONE when it is an ID. */
         static int firstError(Bytes bytes, int from, int end) {
-            int error = shapeError(bytes, from, end);
-            int limit = from + MAX_LENGTH;
-            if (end > limit && (error == NONE || error > limit)) {
-                return limit;
+            int error = schemeError(bytes, from, end);
+            if (error == NONE) {
+                int domain = from + SCHEME.length();
+                int path = domainEnd(bytes, domain, end);
+                error = path == domain ? domain : pathError(bytes, path, end);
             }
-            return error;
+            int limit = from + MAX_LENGTH;
+            boolean tooLong = end > limit && (error == NONE || error > limit);
+            return tooLong ? limit : error;
         }
 
-        private static int shapeError(Bytes bytes, int from, int end) {
+        private static int schemeError(Bytes bytes, int from, int end) {
             for (int i = 0; i < SCHEME.length(); i++) {
                 if (from + i >= end || bytes.at(from + i) != SCHEME.charAt(i)) {
                     return from + i;
                 }
             }
-            int domain = from + SCHEME.length();
-            int path = domainEnd(bytes, domain, end);
-            return path == domain ? domain : pathError(bytes, path, end);
+            return NONE;
         }
 
         /** A 13th character counts as behind the domain: no path can begin with it, which makes it the error. */
         private static int domainEnd(Bytes bytes, int domain, int end) {
             int last = Math.min(end, domain + MAX_DOMAIN);
             for (int place = domain; place < last; place++) {
-                if (!isDomainCharacter(bytes.at(place))) {
+                if (!isNameCharacter(bytes.at(place), false)) {
                     return place;
                 }
             }
@@ -390,7 +391,7 @@ public final class IdentityIssuer {
 
         private static int pathError(Bytes bytes, int path, int end) {
             for (int place = path; place < end; place++) {
-                boolean inSegment = place > path && isSegmentCharacter(bytes.at(place));
+                boolean inSegment = place > path && isNameCharacter(bytes.at(place), true);
                 if (!inSegment && bytes.at(place) != '/') {
                     return place;
                 }
@@ -403,30 +404,19 @@ public final class IdentityIssuer {
 
         /** Whether the characters from here on, as far as they are a segment's, make one. */
         private static boolean isSegment(Bytes bytes, int segment, int end) {
-            int behind = segmentEnd(bytes, segment, end);
-            return behind > segment && !isDots(bytes, segment, behind);
-        }
-
-        private static int segmentEnd(Bytes bytes, int segment, int end) {
-            for (int place = segment; place < end; place++) {
-                if (!isSegmentCharacter(bytes.at(place))) {
-                    return place;
-                }
+            int behind = segment;
+            boolean onlyDots = true;
+            while (behind < end && isNameCharacter(bytes.at(behind), true)) {
+                onlyDots = onlyDots && bytes.at(behind) == '.';
+                behind++;
             }
-            return end;
+            int size = behind - segment;
+            return size > 0 && !(onlyDots && size <= 2);
         }
 
-        private static boolean isDots(Bytes bytes, int segment, int end) {
-            int size = end - segment;
-            return bytes.at(segment) == '.' && (size == 1 || size == 2 && bytes.at(segment + 1) == '.');
-        }
-
-        private static boolean isDomainCharacter(int c) {
-            return c >= 'a' && c <= 'z' || c >= '0' && c <= '9' || c == '.' || c == '-' || c == '_';
-        }
-
-        private static boolean isSegmentCharacter(int c) {
-            return c >= 'A' && c <= 'Z' || isDomainCharacter(c);
+        private static boolean isNameCharacter(int c, boolean capitals) {
+            return c >= 'a' && c <= 'z' || c >= '0' && c <= '9' || c == '.' || c == '-' || c == '_'
+                    || capitals && c >= 'A' && c <= 'Z';
         }
 
         boolean isThere(int id) {

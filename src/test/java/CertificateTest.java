@@ -231,6 +231,9 @@ public final class CertificateTest {
         verify("more than are left", with(bytes, 17, left + 1), -1 - 17);
         verify("255", with(bytes, 17, 255), -1 - 17);
         verify("one less", with(bytes, 17, 11), -1 - 29);
+        verify("it ends in its scheme, though the right characters follow", with(bytes, 17, 5), -1 - 23);
+        verify("a length like the byte behind the ID", Forge.join(Arrays.copyOf(bytes, 17), new int[] {3, 2, 7}),
+            -1 - 17);
         verify("one more", with(bytes, 17, 13), -1 - 30);
     }
 
@@ -282,9 +285,26 @@ public final class CertificateTest {
         verify("by another key", Forge.around(body, Forge.number(Forge.sign(body, 1))), FORGED);
         verify("the same modulo N, but above it",
             Forge.around(body, Forge.number(signature + Forge.modulus(0))), FORGED);
+        int serial = serialWithLowSignature();
+        int[] low = Forge.body(Forge.number(serial), Forge.number(1), Forge.number(0), Forge.number(9), ID);
+        IdentityIssuer x = new IdentityIssuer(64);
+        x.prepare();
+        due.is("right by key 1", Steps.verify(x, Forge.certificate(serial, 1, 0, 9, ID)), serial);
+        due.is("above the modulus of key 1, below that of key 0", Steps.verify(x,
+            Forge.around(low, Forge.number(Forge.sign(low, 1) + Forge.modulus(1)))), FORGED);
         verify("of another body", Forge.around(
             Forge.body(Forge.number(2), Forge.number(0), Forge.number(0), Forge.number(9), ID),
             Forge.number(signature)), FORGED);
+    }
+
+    private static int serialWithLowSignature() {
+        int serial = 0;
+        long room = Forge.modulus(0) - Forge.modulus(1);
+        while (Forge.sign(Forge.body(Forge.number(serial), Forge.number(1), Forge.number(0), Forge.number(9), ID), 1)
+            >= room) {
+            serial++;
+        }
+        return serial;
     }
 
     private static void times() {

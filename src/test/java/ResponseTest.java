@@ -16,6 +16,7 @@ public final class ResponseTest {
         watched();
         polledFirst();
         polledAgain();
+        polledWithOneDifference();
         pollLeavesTheLatest();
         watchersApart();
         due.end();
@@ -230,6 +231,34 @@ public final class ResponseTest {
         due.is("a denied response has no keys", x.poll(0), 0);
         x.sync(0);
         due.is("new ones", x.poll(0), 2);
+    }
+
+    private static void polledWithOneDifference() {
+        IdentityIssuer x = Steps.withIds(32, 3);
+        x.entry(2, 1, 1, 8, 0);
+        x.entry(3, 1, 1, 32, 0);
+        x.attest(1, 0);
+        x.watch(0, 1);
+        x.prepare();
+        x.activate();
+        x.sync(0);
+        due.is("the first time", x.poll(0), 2);
+        x.tick(8);
+        due.is("a certificate less, nothing else", x.poll(0), 1);
+        due.is("no news", x.poll(0), 0);
+        x.tick(10);
+        x.prepare();
+        x.activate();
+        x.remove(0);
+        x.sync(0);
+        due.is("renewed", x.poll(0), 1);
+        due.is("three keys", x.key(2), 2);
+        x.tick(14);
+        due.is("at 32 it keeps keys 0 and 1", x.poll(0), 0);
+        x.sync(0);
+        due.is("till it syncs", x.poll(0), 1);
+        due.is("the first key is key 2", x.key(0), 2);
+        due.is("and it is the last", x.key(1), MISSING);
     }
 
     private static void pollLeavesTheLatest() {
