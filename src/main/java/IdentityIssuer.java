@@ -410,8 +410,8 @@ public final class IdentityIssuer {
                 onlyDots = onlyDots && bytes.at(behind) == '.';
                 behind++;
             }
-            int size = behind - segment;
-            return size > 0 && !(onlyDots && size <= 2);
+            // One without any character is refused with those of one and two dots.
+            return !onlyDots || behind - segment > 2;
         }
 
         private static boolean isNameCharacter(int c, boolean capitals) {

@@ -32,10 +32,14 @@ public final class ModelTest {
         m = new Model(life);
         calls = 0;
         at = "run " + run + ": ";
-        int names = random.nextInt(14);
+        int names = random.nextInt(4) == 0 ? random.nextInt(14) : 8 + random.nextInt(6);
         for (int i = 0; i < names; i++) {
             putAll(TEXTS[random.nextInt(8) == 0 ? random.nextInt(TEXTS.length) : i]);
             is("id()", x.id(), m.id());
+        }
+        for (int id = 1; id < 4; id++) {
+            is("attest(" + id + ", 7)", x.attest(id, 7), m.attest(id, 7));
+            is("watch(" + (id - 1) + ", 7)", x.watch(id - 1, 7), m.watch(id - 1, 7));
         }
         while (calls < CALLS - 110) {
             step(random.nextInt(100));
@@ -56,7 +60,7 @@ public final class ModelTest {
             ids();
         } else if (dice < 18) {
             entries();
-        } else if (dice < 26) {
+        } else if (dice < 22) {
             agents();
         } else if (dice < 42) {
             int a = random.nextInt(3) - random.nextInt(20) / 19;
@@ -68,7 +72,7 @@ public final class ModelTest {
         } else if (dice < 83) {
             certificates();
         } else if (dice < 91) {
-            int n = random.nextInt(10) == 0 ? random.nextInt(70) - 2 : 1 + random.nextInt(12);
+            int n = random.nextInt(10) == 0 ? random.nextInt(70) - 2 : 1 + random.nextInt(8);
             is("tick(" + n + ")", x.tick(n), m.tick(n));
         } else if (dice < 95) {
             is("prepare()", x.prepare(), m.prepare());
@@ -112,8 +116,8 @@ public final class ModelTest {
 
     private void entries() {
         if (random.nextInt(3) > 0) {
-            int id = random.nextInt(11) + (random.nextInt(8) == 0 ? -1 : 1);
-            int parent = random.nextInt(7) - random.nextInt(30) / 29;
+            int id = random.nextInt(8) == 0 ? random.nextInt(14) - 1 : 1 + random.nextInt(5);
+            int parent = random.nextInt(6) - random.nextInt(30) / 29;
             int selectors = bits(3);
             int ttl = random.nextInt(15) == 0 ? random.nextInt(70) - 2 : 1 + random.nextInt(64);
             int friends = random.nextInt(random.nextInt(15) == 0 ? 18 : 16);
@@ -132,7 +136,7 @@ public final class ModelTest {
     private void agents() {
         int a = random.nextInt(4);
         int selectors = bits(3);
-        if (random.nextInt(3) > 0) {
+        if (random.nextInt(3) == 0) {
             int id = 1 + random.nextInt(random.nextInt(4) == 0 ? 12 : 3) - random.nextInt(20) / 19;
             is("attest(" + id + ", " + selectors + ")", x.attest(id, selectors), m.attest(id, selectors));
         } else {
@@ -142,18 +146,18 @@ public final class ModelTest {
 
     private void responses() {
         if (random.nextBoolean()) {
-            int a = random.nextInt(4) - random.nextInt(20) / 19;
-            int selectors = random.nextInt(3) == 0 ? -1 : random.nextInt(16);
+            int a = random.nextInt(20) == 0 ? random.nextInt(6) - 1 : random.nextInt(3);
+            int selectors = random.nextInt(2) == 0 ? -1 : random.nextInt(16);
             is("fetch(" + a + ", " + selectors + ")", x.fetch(a, selectors), m.fetch(a, selectors));
         } else {
-            int w = random.nextInt(5) - random.nextInt(20) / 19;
+            int w = random.nextInt(20) == 0 ? random.nextInt(7) - 1 : random.nextInt(4);
             is("poll(" + w + ")", x.poll(w), m.poll(w));
         }
     }
 
     private void look() {
-        int k = random.nextInt(5) - random.nextInt(10) / 9;
-        int what = random.nextInt(7) - 1;
+        int k = random.nextInt(10) == 0 ? random.nextInt(16) - 2 : random.nextInt(3);
+        int what = random.nextInt(10) == 0 ? random.nextInt(9) - 2 : random.nextInt(5);
         is("svid(" + k + ", " + what + ")", x.svid(k, what), m.svid(k, what));
         is("key(" + k + ")", x.key(k), m.key(k));
         is("friends()", x.friends(), m.friends());
