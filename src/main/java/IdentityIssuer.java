@@ -43,7 +43,7 @@ public final class IdentityIssuer {
     private final ArrayList<Agent> agents = new ArrayList<>();
     private final ArrayList<Watcher> watchers = new ArrayList<>();
     private final Response latest = new Response();
-    private final Reader reader = new Reader(buffer);
+    private final Reader reader = new Reader();
     private final Writer writer = new Writer();
     private int foreignThere;
     private int clock;
@@ -200,7 +200,7 @@ public final class IdentityIssuer {
     }
 
     public int verify() {
-        reader.read();
+        reader.read(buffer);
         int answer = judge();
         buffer.clear();
         return answer;
@@ -737,7 +737,8 @@ public final class IdentityIssuer {
      * without harm: a place outside the bytes reads as NONE.
      */
     private static final class Reader {
-        private final Bytes bytes;
+        // A row of its own till it reads: a constructor hands no part of its object to another.
+        private Bytes bytes = new Bytes();
         private int place;
         private int error;
         private int serial;
@@ -747,11 +748,8 @@ public final class IdentityIssuer {
         private int bodyEnd;
         private int signature;
 
-        Reader(Bytes bytes) {
-            this.bytes = bytes;
-        }
-
-        void read() {
+        void read(Bytes certificate) {
+            bytes = certificate;
             place = 0;
             error = NONE;
             expect(SEQUENCE_TAG);
