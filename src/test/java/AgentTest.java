@@ -24,7 +24,7 @@ public final class AgentTest {
     }
 
     private static void attested() {
-        IdentityIssuer x = Steps.withIds(64, 4);
+        Issuer x = Issuer.withIds(64, 4);
         due.is("the first", x.attest(3, 0), 0);
         due.is("the second", x.attest(1, 65535), 1);
         due.is("the first again", x.attest(3, 5), 0);
@@ -36,10 +36,10 @@ public final class AgentTest {
     }
 
     private static void wrongAgents() {
-        IdentityIssuer x = new IdentityIssuer(64);
+        Issuer x = new Issuer(64);
         due.is("no IDs", x.attest(0, 0), MISSING);
         for (String name : new String[] {"spiffe://o/s", "spiffe://o", "spiffe://p/a", "spiffe://o/a"}) {
-            Steps.id(x, name);
+            x.id(name);
         }
         due.is("ID 0, with a path", x.attest(0, 0), WRONG);
         due.is("no path", x.attest(1, 0), WRONG);
@@ -53,7 +53,7 @@ public final class AgentTest {
     }
 
     private static void attestedAgain() {
-        IdentityIssuer x = Steps.withIds(64, 3);
+        Issuer x = Issuer.withIds(64, 3);
         x.entry(1, 0, 2, 64, 0);
         x.entry(2, 1, 1, 64, 0);
         x.attest(3, 2);
@@ -71,7 +71,7 @@ public final class AgentTest {
     }
 
     private static void missingAgents() {
-        IdentityIssuer x = Steps.withIds(64, 2);
+        Issuer x = Issuer.withIds(64, 2);
         due.is("sync(0)", x.sync(0), MISSING);
         x.attest(1, 0);
         due.is("sync(1)", x.sync(1), MISSING);
@@ -81,7 +81,7 @@ public final class AgentTest {
     }
 
     private static void reachByParents() {
-        IdentityIssuer x = Steps.withIds(64, 6);
+        Issuer x = Issuer.withIds(64, 6);
         x.entry(2, 1, 1, 8, 0);
         x.entry(3, 2, 1, 8, 0);
         x.entry(4, 4, 1, 8, 0);
@@ -100,7 +100,7 @@ public final class AgentTest {
     }
 
     private static void reachBySelectors() {
-        IdentityIssuer x = Steps.withIds(64, 5);
+        Issuer x = Issuer.withIds(64, 5);
         x.entry(2, 0, 3, 8, 0);
         x.entry(3, 2, 1, 8, 0);
         x.entry(4, 0, 4, 8, 0);
@@ -118,7 +118,7 @@ public final class AgentTest {
     }
 
     private static void chainsAgainstTheOrder() {
-        IdentityIssuer x = Steps.withIds(64, 11);
+        Issuer x = Issuer.withIds(64, 11);
         for (int id = 11; id > 1; id--) {
             x.entry(id, id - 1, 1, 8, 0);
         }
@@ -136,7 +136,7 @@ public final class AgentTest {
     }
 
     private static void renewal() {
-        IdentityIssuer x = Steps.withIds(256, 2);
+        Issuer x = Issuer.withIds(256, 2);
         x.entry(2, 1, 1, 9, 0);
         x.entry(2, 1, 2, 10, 0);
         x.entry(2, 1, 4, 1, 0);
@@ -161,7 +161,7 @@ public final class AgentTest {
     }
 
     private static void endOfTheKey() {
-        IdentityIssuer x = Steps.withIds(40, 2);
+        Issuer x = Issuer.withIds(40, 2);
         x.entry(2, 1, 1, 40, 0);
         x.attest(1, 0);
         x.sync(0);
@@ -187,7 +187,7 @@ public final class AgentTest {
     }
 
     private static void expiredKeepsAll() {
-        IdentityIssuer x = Steps.withIds(32, 3);
+        Issuer x = Issuer.withIds(32, 3);
         x.entry(2, 1, 1, 64, 15);
         x.attest(1, 0);
         x.tick(31);
@@ -214,7 +214,7 @@ public final class AgentTest {
     }
 
     private static void expiredOnlyWhenDue() {
-        IdentityIssuer x = Steps.withIds(32, 2);
+        Issuer x = Issuer.withIds(32, 2);
         x.attest(1, 0);
         x.tick(32);
         due.is("nothing is due", x.sync(0), 0);
@@ -228,7 +228,7 @@ public final class AgentTest {
     }
 
     private static void lostAndFound() {
-        IdentityIssuer x = Steps.withIds(64, 3);
+        Issuer x = Issuer.withIds(64, 3);
         int link = x.entry(2, 1, 1, 64, 0);
         x.entry(3, 2, 1, 64, 0);
         x.attest(1, 0);

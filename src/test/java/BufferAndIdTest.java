@@ -16,21 +16,21 @@ public final class BufferAndIdTest {
     }
 
     private static void error(String text, int place) {
-        due.is("id of " + text, Steps.id(new IdentityIssuer(64), text), -1 - place);
+        due.is("id of " + text, new Issuer(64).id(text), -1 - place);
     }
 
     private static void good(String text) {
-        due.is("id of " + text, Steps.id(new IdentityIssuer(64), text), 0);
+        due.is("id of " + text, new Issuer(64).id(text), 0);
     }
 
     private static void putTakesTheLowestBytes() {
-        IdentityIssuer x = new IdentityIssuer(64);
+        Issuer x = new Issuer(64);
         x.put('s' << 8 | 'p' | 0x7F990000, 2);
         x.put('i' | 0x80ABCD00, 1);
         x.put('f' << 16 | 'f' << 8 | 'e' | 0xFF000000, 3);
         x.put(':' << 24 | '/' << 16 | '/' << 8 | 'a', 4);
         due.is("id of bytes in groups", x.id(), 0);
-        due.is("the same again", Steps.id(x, "spiffe://a"), 0);
+        due.is("the same again", x.id("spiffe://a"), 0);
         x.put(255 << 8 | 's', 2);
         due.is("the highest byte first", x.id(), -1);
         x.put('s' << 8 | 255, 2);
@@ -38,11 +38,11 @@ public final class BufferAndIdTest {
     }
 
     private static void putKnowsItsRoom() {
-        IdentityIssuer x = new IdentityIssuer(64);
+        Issuer x = new Issuer(64);
         for (int n : new int[] {0, -1, 5, Integer.MIN_VALUE, Integer.MAX_VALUE}) {
             due.is("put(0, " + n + ")", x.put(0, n), false);
         }
-        due.is("nothing was put", Steps.id(x, "spiffe://a"), 0);
+        due.is("nothing was put", x.id("spiffe://a"), 0);
         for (int i = 0; i < 24; i++) {
             due.is("put 4 bytes", x.put(0x30303030, 4), true);
         }
@@ -53,7 +53,7 @@ public final class BufferAndIdTest {
         due.is("id", x.id(), -1);
         due.is("empty again", x.put(0x30303030, 4), true);
         x.verify();
-        due.is("verify empties it, too", Steps.id(x, "spiffe://a"), 0);
+        due.is("verify empties it, too", x.id("spiffe://a"), 0);
     }
 
     private static void schemeErrors() {
@@ -136,26 +136,26 @@ public final class BufferAndIdTest {
     }
 
     private static void numbers() {
-        IdentityIssuer x = new IdentityIssuer(64);
-        due.is("ID 0 may have a path", Steps.id(x, "spiffe://a/srv"), 0);
-        due.is("the next", Steps.id(x, "spiffe://a"), 1);
-        due.is("another domain", Steps.id(x, "spiffe://b/srv"), 2);
-        due.is("an error takes no number", Steps.id(x, "spiffe://a/"), -12);
-        due.is("a letter of another case", Steps.id(x, "spiffe://a/Srv"), 3);
-        due.is("read again", Steps.id(x, "spiffe://a/srv"), 0);
-        due.is("read again", Steps.id(x, "spiffe://b/srv"), 2);
-        due.is("a longer one", Steps.id(x, "spiffe://a/srv1"), 4);
-        due.is("a shorter one", Steps.id(x, "spiffe://a/sr"), 5);
+        Issuer x = new Issuer(64);
+        due.is("ID 0 may have a path", x.id("spiffe://a/srv"), 0);
+        due.is("the next", x.id("spiffe://a"), 1);
+        due.is("another domain", x.id("spiffe://b/srv"), 2);
+        due.is("an error takes no number", x.id("spiffe://a/"), -12);
+        due.is("a letter of another case", x.id("spiffe://a/Srv"), 3);
+        due.is("read again", x.id("spiffe://a/srv"), 0);
+        due.is("read again", x.id("spiffe://b/srv"), 2);
+        due.is("a longer one", x.id("spiffe://a/srv1"), 4);
+        due.is("a shorter one", x.id("spiffe://a/sr"), 5);
     }
 
     private static void twelveIds() {
-        IdentityIssuer x = Steps.withIds(64, 10);
-        due.is("the 12th", Steps.id(x, "spiffe://o/11"), 11);
-        due.is("a 13th", Steps.id(x, "spiffe://o/12"), IdentityIssuer.FULL);
+        Issuer x = Issuer.withIds(64, 10);
+        due.is("the 12th", x.id("spiffe://o/11"), 11);
+        due.is("a 13th", x.id("spiffe://o/12"), IdentityIssuer.FULL);
         due.is("the buffer is empty then", x.id(), -1);
-        due.is("an error is told all the same", Steps.id(x, "spiffe://o/12/"), -15);
-        due.is("one that was read before", Steps.id(x, "spiffe://o/7"), 7);
-        due.is("the last of them", Steps.id(x, "spiffe://o/11"), 11);
+        due.is("an error is told all the same", x.id("spiffe://o/12/"), -15);
+        due.is("one that was read before", x.id("spiffe://o/7"), 7);
+        due.is("the last of them", x.id("spiffe://o/11"), 11);
         due.is("ID 12 is not there", x.attest(12, 0), IdentityIssuer.MISSING);
     }
 

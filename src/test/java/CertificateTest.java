@@ -28,8 +28,8 @@ public final class CertificateTest {
         due.end();
     }
 
-    private static IdentityIssuer issuer(int life) {
-        IdentityIssuer x = Steps.withIds(life, 2);
+    private static Issuer issuer(int life) {
+        Issuer x = Issuer.withIds(life, 2);
         x.entry(2, 1, 1, 9, 0);
         x.attest(1, 0);
         x.sync(0);
@@ -38,8 +38,8 @@ public final class CertificateTest {
     }
 
     private static void verify(String what, int[] bytes, int want) {
-        IdentityIssuer x = new IdentityIssuer(64);
-        due.is(what, Steps.verify(x, bytes), want);
+        Issuer x = new Issuer(64);
+        due.is(what, x.verify(bytes), want);
         due.is("the buffer is empty after " + what, x.verify(), -1);
     }
 
@@ -48,10 +48,10 @@ public final class CertificateTest {
     }
 
     private static void knownBytes() {
-        IdentityIssuer x = issuer(32);
+        Issuer x = issuer(32);
         int[] front = {48, 38, 48, 30, 2, 1, 1, 2, 1, 0, 2, 1, 0, 2, 1, 9, 134, 12, 's', 'p', 'i', 'f', 'f', 'e',
             ':', '/', '/', 'o', '/', '2', 3, 2, 7, 128, 2, 4};
-        same("the front", Arrays.copyOf(Steps.written(x, 0), 36), front);
+        same("the front", Arrays.copyOf(x.written(0), 36), front);
         due.is("no byte -1", x.written(0, -1), MISSING);
         due.is("no byte 40", x.written(0, 40), MISSING);
         due.is("no byte max", x.written(0, Integer.MAX_VALUE), MISSING);
@@ -60,18 +60,17 @@ public final class CertificateTest {
     }
 
     private static void writtenLikeForged() {
-        IdentityIssuer x = Steps.withIds(256, 2);
+        Issuer x = Issuer.withIds(256, 2);
         x.entry(2, 1, 1, 64, 0);
         x.entry(1, 1, 1, 63, 0);
         x.attest(1, 0);
         for (int round = 0; round < 9; round++) {
             x.sync(0);
             x.fetch(0, 1);
-            for (int k = 0; k < 2; k++) {
-                int[] want = Forge.certificate(x.svid(k, 1), x.svid(k, 2), x.svid(k, 3), x.svid(k, 4),
-                    k == 0 ? ID : "spiffe://o/1");
-                same("round " + round + ", certificate " + k, Steps.written(x, k), want);
-            }
+            int k = round % 2;
+            int[] want = Forge.certificate(x.svid(k, 1), x.svid(k, 2), x.svid(k, 3), x.svid(k, 4),
+                k == 0 ? ID : "spiffe://o/1");
+            same("round " + round + ", certificate " + k, x.written(k), want);
             x.prepare();
             x.activate();
             x.tick(round == 0 ? 63 : 64);
@@ -80,28 +79,28 @@ public final class CertificateTest {
     }
 
     private static void writtenAsIssued() {
-        IdentityIssuer x = issuer(32);
-        int[] first = Steps.written(x, 0);
+        Issuer x = issuer(32);
+        int[] first = x.written(0);
         x.remove(0);
         x.prepare();
         x.activate();
         x.tick(8);
         x.fetch(0, 1);
-        same("later", Steps.written(x, 0), first);
+        same("later", x.written(0), first);
         x.entry(1, 1, 1, 9, 0);
         x.sync(0);
-        same("the latest stays", Steps.written(x, 0), first);
+        same("the latest stays", x.written(0), first);
         x.fetch(0, 1);
-        same("another one", Steps.written(x, 0), Forge.certificate(2, 1, 8, 17, "spiffe://o/1"));
+        same("another one", x.written(0), Forge.certificate(2, 1, 8, 17, "spiffe://o/1"));
         x.fetch(0, 2);
         due.is("denied", x.written(0, 0), MISSING);
     }
 
     private static void longestCertificate() {
-        IdentityIssuer x = new IdentityIssuer(256);
-        Steps.id(x, "spiffe://o");
+        Issuer x = new Issuer(256);
+        x.id("spiffe://o");
         String longest = "spiffe://o/" + "x".repeat(29);
-        Steps.id(x, longest);
+        x.id(longest);
         for (int i = 0; i < 12; i++) {
             x.entry(1, 1, 1, 64, 0);
         }
@@ -114,24 +113,24 @@ public final class CertificateTest {
         }
         x.fetch(0, 1);
         due.is("serial", x.svid(11, 1), 144);
-        int[] bytes = Steps.written(x, 11);
+        int[] bytes = x.written(11);
         same("numbers of two bytes", bytes, Forge.certificate(144, x.svid(11, 2), 768, 832, longest));
-        due.is("verify", Steps.verify(x, bytes), 144);
+        due.is("verify", x.verify(bytes), 144);
     }
 
     private static void whatIsWrittenIsRight() {
-        IdentityIssuer x = issuer(32);
-        int[] bytes = Steps.written(x, 0);
-        due.is("its serial", Steps.verify(x, bytes), 1);
+        Issuer x = issuer(32);
+        int[] bytes = x.written(0);
+        due.is("its serial", x.verify(bytes), 1);
         x.tick(8);
-        due.is("near its end", Steps.verify(x, bytes), 1);
+        due.is("near its end", x.verify(bytes), 1);
         x.tick(1);
-        due.is("at its end", Steps.verify(x, bytes), EXPIRED);
+        due.is("at its end", x.verify(bytes), EXPIRED);
         x.tick(23);
-        due.is("its key has ended", Steps.verify(x, bytes), UNKNOWN);
-        due.is("any serial", Steps.verify(new IdentityIssuer(64), Forge.certificate(2147483647, 0, 0, 1, ID)),
+        due.is("its key has ended", x.verify(bytes), UNKNOWN);
+        due.is("any serial", new Issuer(64).verify(Forge.certificate(2147483647, 0, 0, 1, ID)),
             2147483647);
-        due.is("an empty buffer", Steps.verify(x, new int[0]), -1);
+        due.is("an empty buffer", x.verify(new int[0]), -1);
         verify("an ID that was never read", Forge.certificate(5, 0, 0, 1, "spiffe://other.org"), 5);
         verify("serial 0", Forge.certificate(0, 0, 0, 1, ID), 0);
     }
@@ -151,8 +150,8 @@ public final class CertificateTest {
         for (int p = 0; p < bytes.length; p++) {
             int[] changed = bytes.clone();
             changed[p] ^= 1;
-            IdentityIssuer x = new IdentityIssuer(64);
-            int answer = Steps.verify(x, changed);
+            Issuer x = new Issuer(64);
+            int answer = x.verify(changed);
             due.is("changed at " + p + ", answers " + answer, answer < 0, true);
         }
     }
@@ -252,27 +251,27 @@ public final class CertificateTest {
     }
 
     private static void keysOfTheBundle() {
-        IdentityIssuer x = new IdentityIssuer(32);
-        due.is("key 1 is not made", Steps.verify(x, Forge.certificate(1, 1, 0, 99, ID)), UNKNOWN);
+        Issuer x = new Issuer(32);
+        due.is("key 1 is not made", x.verify(Forge.certificate(1, 1, 0, 99, ID)), UNKNOWN);
         x.tick(16);
         x.prepare();
-        due.is("a prepared one", Steps.verify(x, Forge.certificate(7, 1, 0, 99, ID)), 7);
-        due.is("a high number", Steps.verify(x, Forge.certificate(7, 2147483647, 0, 99, ID)), UNKNOWN);
-        due.is("the same modulus, another key", Steps.verify(x, Forge.certificate(7, 4, 0, 99, ID)), UNKNOWN);
+        due.is("a prepared one", x.verify(Forge.certificate(7, 1, 0, 99, ID)), 7);
+        due.is("a high number", x.verify(Forge.certificate(7, 2147483647, 0, 99, ID)), UNKNOWN);
+        due.is("the same modulus, another key", x.verify(Forge.certificate(7, 4, 0, 99, ID)), UNKNOWN);
         x.activate();
-        due.is("an old one", Steps.verify(x, Forge.certificate(8, 0, 0, 99, ID)), 8);
+        due.is("an old one", x.verify(Forge.certificate(8, 0, 0, 99, ID)), 8);
         x.tick(15);
-        due.is("old at 31", Steps.verify(x, Forge.certificate(8, 0, 0, 99, ID)), 8);
+        due.is("old at 31", x.verify(Forge.certificate(8, 0, 0, 99, ID)), 8);
         x.tick(1);
-        due.is("old at 32", Steps.verify(x, Forge.certificate(8, 0, 0, 99, ID)), UNKNOWN);
-        due.is("active at 32", Steps.verify(x, Forge.certificate(9, 1, 0, 99, ID)), 9);
+        due.is("old at 32", x.verify(Forge.certificate(8, 0, 0, 99, ID)), UNKNOWN);
+        due.is("active at 32", x.verify(Forge.certificate(9, 1, 0, 99, ID)), 9);
         x.tick(16);
-        due.is("active at 48", Steps.verify(x, Forge.certificate(9, 1, 0, 99, ID)), UNKNOWN);
+        due.is("active at 48", x.verify(Forge.certificate(9, 1, 0, 99, ID)), UNKNOWN);
         for (int key = 2; key < 9; key++) {
             x.tick(32);
             due.is("prepare", x.prepare(), key);
-            due.is("key " + key, Steps.verify(x, Forge.certificate(key, key, 0, 9999, ID)), key);
-            due.is("key before", Steps.verify(x, Forge.certificate(1, key - 1, 0, 9999, ID)), UNKNOWN);
+            due.is("key " + key, x.verify(Forge.certificate(key, key, 0, 9999, ID)), key);
+            due.is("key before", x.verify(Forge.certificate(1, key - 1, 0, 9999, ID)), UNKNOWN);
         }
     }
 
@@ -287,10 +286,10 @@ public final class CertificateTest {
             Forge.around(body, Forge.number(signature + Forge.modulus(0))), FORGED);
         int serial = serialWithLowSignature();
         int[] low = Forge.body(Forge.number(serial), Forge.number(1), Forge.number(0), Forge.number(9), ID);
-        IdentityIssuer x = new IdentityIssuer(64);
+        Issuer x = new Issuer(64);
         x.prepare();
-        due.is("right by key 1", Steps.verify(x, Forge.certificate(serial, 1, 0, 9, ID)), serial);
-        due.is("above the modulus of key 1, below that of key 0", Steps.verify(x,
+        due.is("right by key 1", x.verify(Forge.certificate(serial, 1, 0, 9, ID)), serial);
+        due.is("above the modulus of key 1, below that of key 0", x.verify(
             Forge.around(low, Forge.number(Forge.sign(low, 1) + Forge.modulus(1)))), FORGED);
         verify("of another body", Forge.around(
             Forge.body(Forge.number(2), Forge.number(0), Forge.number(0), Forge.number(9), ID),
@@ -308,27 +307,27 @@ public final class CertificateTest {
     }
 
     private static void times() {
-        IdentityIssuer x = new IdentityIssuer(64);
+        Issuer x = new Issuer(64);
         int[] early = Forge.certificate(1, 0, 5, 7, ID);
         x.tick(4);
-        due.is("before its start", Steps.verify(x, early), EXPIRED);
+        due.is("before its start", x.verify(early), EXPIRED);
         x.tick(1);
-        due.is("at its start", Steps.verify(x, early), 1);
+        due.is("at its start", x.verify(early), 1);
         x.tick(1);
-        due.is("before its end", Steps.verify(x, early), 1);
+        due.is("before its end", x.verify(early), 1);
         x.tick(1);
-        due.is("at its end", Steps.verify(x, early), EXPIRED);
-        due.is("no time at all", Steps.verify(x, Forge.certificate(1, 0, 7, 7, ID)), EXPIRED);
-        due.is("the greatest end", Steps.verify(x, Forge.certificate(1, 0, 7, 2147483647, ID)), 1);
+        due.is("at its end", x.verify(early), EXPIRED);
+        due.is("no time at all", x.verify(Forge.certificate(1, 0, 7, 7, ID)), EXPIRED);
+        due.is("the greatest end", x.verify(Forge.certificate(1, 0, 7, 2147483647, ID)), 1);
     }
 
     private static void orderOfRefusals() {
-        IdentityIssuer x = new IdentityIssuer(64);
+        Issuer x = new Issuer(64);
         int[] body = Forge.body(Forge.number(1), Forge.number(1), Forge.number(5), Forge.number(9), ID);
-        due.is("unknown, forged, expired", Steps.verify(x, Forge.around(body, Forge.number(1))), UNKNOWN);
+        due.is("unknown, forged, expired", x.verify(Forge.around(body, Forge.number(1))), UNKNOWN);
         body = Forge.body(Forge.number(1), Forge.number(0), Forge.number(5), Forge.number(9), ID);
-        due.is("forged, expired", Steps.verify(x, Forge.around(body, Forge.number(1))), FORGED);
-        due.is("unknown, expired", Steps.verify(x, Forge.certificate(1, 3, 5, 9, ID)), UNKNOWN);
-        due.is("an error in it", Steps.verify(x, with(Forge.certificate(1, 3, 5, 9, ID), 1, 0)), -2);
+        due.is("forged, expired", x.verify(Forge.around(body, Forge.number(1))), FORGED);
+        due.is("unknown, expired", x.verify(Forge.certificate(1, 3, 5, 9, ID)), UNKNOWN);
+        due.is("an error in it", x.verify(with(Forge.certificate(1, 3, 5, 9, ID), 1, 0)), -2);
     }
 }

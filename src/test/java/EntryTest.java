@@ -18,7 +18,7 @@ public final class EntryTest {
     }
 
     private static void ordinary() {
-        IdentityIssuer x = Steps.withIds(64, 2);
+        Issuer x = Issuer.withIds(64, 2);
         due.is("the first", x.entry(1, 0, 1, 1, 0), 0);
         due.is("the same again", x.entry(1, 0, 1, 1, 0), 1);
         due.is("its own parent", x.entry(1, 1, 65535, 64, 15), 2);
@@ -26,9 +26,9 @@ public final class EntryTest {
     }
 
     private static void missingBeforeWrong() {
-        IdentityIssuer x = new IdentityIssuer(64);
+        Issuer x = new Issuer(64);
         due.is("no IDs", x.entry(0, 0, 1, 1, 0), MISSING);
-        x = Steps.withIds(64, 2);
+        x = Issuer.withIds(64, 2);
         due.is("id 3", x.entry(3, 0, 1, 1, 0), MISSING);
         due.is("parent 3", x.entry(1, 3, 1, 1, 0), MISSING);
         due.is("id -1", x.entry(-1, 0, 1, 1, 0), MISSING);
@@ -41,10 +41,10 @@ public final class EntryTest {
     }
 
     private static void wrongNames() {
-        IdentityIssuer x = new IdentityIssuer(64);
+        Issuer x = new Issuer(64);
         String[] names = {"spiffe://o/s", "spiffe://o", "spiffe://o/a", "spiffe://p/a", "spiffe://oo/a", "spiffe://p"};
         for (String name : names) {
-            Steps.id(x, name);
+            x.id(name);
         }
         due.is("id 0, with a path", x.entry(0, 0, 1, 1, 0), WRONG);
         due.is("id without a path", x.entry(1, 0, 1, 1, 0), WRONG);
@@ -58,7 +58,7 @@ public final class EntryTest {
     }
 
     private static void wrongNumbers() {
-        IdentityIssuer x = Steps.withIds(64, 2);
+        Issuer x = Issuer.withIds(64, 2);
         due.is("selectors 0", x.entry(1, 0, 0, 1, 0), WRONG);
         due.is("selectors 65536", x.entry(1, 0, 65536, 1, 0), WRONG);
         due.is("selectors -1", x.entry(1, 0, -1, 1, 0), WRONG);
@@ -70,7 +70,7 @@ public final class EntryTest {
     }
 
     private static void twelveThere() {
-        IdentityIssuer x = Steps.withIds(64, 2);
+        Issuer x = Issuer.withIds(64, 2);
         for (int e = 0; e < 12; e++) {
             due.is("entry " + e, x.entry(1, 2, 1, 1, 0), e);
         }
@@ -83,7 +83,7 @@ public final class EntryTest {
     }
 
     private static void sixtyEver() {
-        IdentityIssuer x = Steps.withIds(64, 2);
+        Issuer x = Issuer.withIds(64, 2);
         for (int e = 0; e < 60; e++) {
             due.is("entry " + e, x.entry(1, 2, 1, 1, 0), e);
             due.is("remove " + e, x.remove(e), true);
@@ -93,7 +93,7 @@ public final class EntryTest {
     }
 
     private static void removed() {
-        IdentityIssuer x = Steps.withIds(64, 2);
+        Issuer x = Issuer.withIds(64, 2);
         due.is("none there", x.remove(0), false);
         x.entry(1, 2, 1, 8, 0);
         x.entry(1, 2, 2, 8, 0);
@@ -116,7 +116,7 @@ public final class EntryTest {
     }
 
     private static void foreignBundles() {
-        IdentityIssuer x = Steps.withIds(64, 2);
+        Issuer x = Issuer.withIds(64, 2);
         for (int k = 0; k < 4; k++) {
             due.is("not there " + k, x.foreign(k, false), false);
             due.is("there " + k, x.foreign(k, true), true);

@@ -19,7 +19,10 @@ public final class HostileTest {
     }
 
     private static boolean run(Random random) {
-        IdentityIssuer x = random.nextBoolean() ? Steps.withIds(number(random), 11) : new IdentityIssuer(number(random));
+        IdentityIssuer x = new IdentityIssuer(number(random));
+        if (random.nextBoolean()) {
+            readIds(x);
+        }
         try {
             for (int i = 0; i < 20000; i++) {
                 call(x, random, random.nextInt(18));
@@ -28,6 +31,15 @@ public final class HostileTest {
         } catch (RuntimeException thrown) {
             thrown.printStackTrace(System.out);
             return false;
+        }
+    }
+
+    private static void readIds(IdentityIssuer x) {
+        for (int i = 0; i < 12; i++) {
+            for (char c : ("spiffe://o/" + i).toCharArray()) {
+                x.put(c, 1);
+            }
+            x.id();
         }
     }
 

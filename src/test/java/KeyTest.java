@@ -19,7 +19,7 @@ public final class KeyTest {
     }
 
     private static void nothingButKeyZero() {
-        IdentityIssuer x = new IdentityIssuer(64);
+        Issuer x = new Issuer(64);
         due.is("buffer", x.id(), -1);
         due.is("entries", x.remove(0), false);
         due.is("foreign bundles", x.foreign(0, false), false);
@@ -32,19 +32,19 @@ public final class KeyTest {
         due.is("prepared", x.activate(), false);
         due.is("the next key", x.prepare(), 1);
         due.is("clock", x.tick(1), 1);
-        due.is("IDs", Steps.id(x, "spiffe://a"), 0);
+        due.is("IDs", x.id("spiffe://a"), 0);
     }
 
     /** The last clock at which key 0 is good. */
     private static void life(int given, int want) {
-        IdentityIssuer x = new IdentityIssuer(given);
+        Issuer x = new Issuer(given);
         int[] bytes = Forge.certificate(1, 0, 0, 9999, "spiffe://o");
         for (int left = want - 1; left > 0; left -= 64) {
             x.tick(Math.min(64, left));
         }
-        due.is("life " + given + ", at its last time", Steps.verify(x, bytes), 1);
+        due.is("life " + given + ", at its last time", x.verify(bytes), 1);
         x.tick(1);
-        due.is("life " + given + ", over", Steps.verify(x, bytes), IdentityIssuer.UNKNOWN);
+        due.is("life " + given + ", over", x.verify(bytes), IdentityIssuer.UNKNOWN);
     }
 
     private static void lives() {
@@ -62,7 +62,7 @@ public final class KeyTest {
     }
 
     private static void ticks() {
-        IdentityIssuer x = new IdentityIssuer(64);
+        Issuer x = new Issuer(64);
         for (int n : new int[] {0, -1, 65, Integer.MIN_VALUE, Integer.MAX_VALUE}) {
             due.is("tick(" + n + ")", x.tick(n), WRONG);
         }
@@ -73,7 +73,7 @@ public final class KeyTest {
     }
 
     private static void onePrepared() {
-        IdentityIssuer x = new IdentityIssuer(32);
+        Issuer x = new Issuer(32);
         due.is("prepare", x.prepare(), 1);
         due.is("one is there", x.prepare(), FULL);
         due.is("activate", x.activate(), true);
@@ -83,7 +83,7 @@ public final class KeyTest {
     }
 
     private static void fourGood() {
-        IdentityIssuer x = new IdentityIssuer(32);
+        Issuer x = new Issuer(32);
         for (int k = 1; k < 4; k++) {
             x.tick(1);
             due.is("key " + k, x.prepare(), k);
@@ -103,7 +103,7 @@ public final class KeyTest {
     }
 
     private static void forgotten() {
-        IdentityIssuer x = new IdentityIssuer(32);
+        Issuer x = new Issuer(32);
         x.prepare();
         x.tick(31);
         due.is("still good", x.prepare(), FULL);
@@ -115,7 +115,7 @@ public final class KeyTest {
     }
 
     private static void activated() {
-        IdentityIssuer x = Steps.withIds(32, 2);
+        Issuer x = Issuer.withIds(32, 2);
         x.entry(2, 1, 1, 64, 0);
         x.attest(1, 0);
         x.tick(10);
@@ -138,7 +138,7 @@ public final class KeyTest {
     }
 
     private static void oldKeysStay() {
-        IdentityIssuer x = Steps.withIds(32, 2);
+        Issuer x = Issuer.withIds(32, 2);
         x.entry(2, 1, 1, 64, 0);
         x.attest(1, 0);
         x.tick(8);
@@ -164,7 +164,7 @@ public final class KeyTest {
     }
 
     private static void manyKeys() {
-        IdentityIssuer x = Steps.withIds(32, 2);
+        Issuer x = Issuer.withIds(32, 2);
         x.entry(2, 1, 1, 64, 0);
         x.attest(1, 0);
         for (int k = 1; k < 60; k++) {

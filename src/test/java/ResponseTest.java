@@ -22,7 +22,7 @@ public final class ResponseTest {
         due.end();
     }
 
-    private static void nothing(IdentityIssuer x, String when) {
+    private static void nothing(Issuer x, String when) {
         due.is("svid(0, 0) " + when, x.svid(0, 0), MISSING);
         due.is("key(0) " + when, x.key(0), MISSING);
         due.is("friends() " + when, x.friends(), 0);
@@ -30,8 +30,8 @@ public final class ResponseTest {
     }
 
     /** Agent 0 has entries 0 (selectors 1, friends 1), 1 (2, friends 2) and 2 (6, friends 4), and has synced. */
-    private static IdentityIssuer synced() {
-        IdentityIssuer x = Steps.withIds(64, 4);
+    private static Issuer synced() {
+        Issuer x = Issuer.withIds(64, 4);
         x.entry(2, 1, 1, 10, 1);
         x.entry(3, 1, 2, 20, 2);
         x.entry(4, 3, 6, 30, 4);
@@ -44,7 +44,7 @@ public final class ResponseTest {
     }
 
     private static void beforeAnyResponse() {
-        IdentityIssuer x = synced();
+        Issuer x = synced();
         nothing(x, "at first");
         due.is("no agent 1", x.fetch(1, 7), MISSING);
         due.is("no agent -1", x.fetch(-1, 7), MISSING);
@@ -53,7 +53,7 @@ public final class ResponseTest {
     }
 
     private static void fetched() {
-        IdentityIssuer x = synced();
+        Issuer x = synced();
         due.is("fetch", x.fetch(0, 7), 3);
         int[][] want = {{0, 1, 0, 0, 10}, {1, 2, 0, 0, 20}, {2, 3, 0, 0, 30}};
         for (int k = 0; k < 3; k++) {
@@ -69,7 +69,7 @@ public final class ResponseTest {
     }
 
     private static void selectorsOfWorkloads() {
-        IdentityIssuer x = synced();
+        Issuer x = synced();
         due.is("none", x.fetch(0, 0), DENIED);
         due.is("1", x.fetch(0, 1), 1);
         due.is("2", x.fetch(0, 2), 1);
@@ -83,7 +83,7 @@ public final class ResponseTest {
     }
 
     private static void certificatesEnd() {
-        IdentityIssuer x = synced();
+        Issuer x = synced();
         x.tick(9);
         due.is("at 9", x.fetch(0, 7), 3);
         x.tick(1);
@@ -96,7 +96,7 @@ public final class ResponseTest {
     }
 
     private static void theLatestStays() {
-        IdentityIssuer x = synced();
+        Issuer x = synced();
         x.fetch(0, 2);
         x.fetch(1, 7);
         due.is("a refused fetch", x.svid(0, 1), 2);
@@ -112,7 +112,7 @@ public final class ResponseTest {
     }
 
     private static void keysOfAResponse() {
-        IdentityIssuer x = synced();
+        Issuer x = synced();
         x.prepare();
         x.fetch(0, 7);
         due.is("as at the sync", x.key(1), MISSING);
@@ -137,7 +137,7 @@ public final class ResponseTest {
         due.is("from key 2 on", x.key(0), 2);
         due.is("and no more", x.key(1), MISSING);
 
-        IdentityIssuer y = Steps.withIds(32, 2);
+        Issuer y = Issuer.withIds(32, 2);
         y.entry(2, 1, 1, 64, 0);
         y.attest(1, 0);
         y.tick(20);
@@ -151,7 +151,7 @@ public final class ResponseTest {
     }
 
     private static void friendsOfAResponse() {
-        IdentityIssuer x = synced();
+        Issuer x = synced();
         x.fetch(0, 7);
         due.is("all three", x.friends(), 7);
         x.fetch(0, 2);
@@ -167,7 +167,7 @@ public final class ResponseTest {
     }
 
     private static void watched() {
-        IdentityIssuer x = synced();
+        Issuer x = synced();
         due.is("no agent 1", x.watch(1, 7), MISSING);
         due.is("no agent -1", x.watch(-1, 7), MISSING);
         for (int w = 0; w < 4; w++) {
@@ -181,7 +181,7 @@ public final class ResponseTest {
     }
 
     private static void polledFirst() {
-        IdentityIssuer x = synced();
+        Issuer x = synced();
         x.watch(0, 4);
         x.watch(0, 3);
         x.fetch(0, 7);
@@ -195,7 +195,7 @@ public final class ResponseTest {
     }
 
     private static void polledAgain() {
-        IdentityIssuer x = synced();
+        Issuer x = synced();
         x.watch(0, 3);
         x.poll(0);
         x.sync(0);
@@ -234,7 +234,7 @@ public final class ResponseTest {
     }
 
     private static void polledWithOneDifference() {
-        IdentityIssuer x = Steps.withIds(32, 3);
+        Issuer x = Issuer.withIds(32, 3);
         x.entry(2, 1, 1, 8, 0);
         x.entry(3, 1, 1, 32, 0);
         x.attest(1, 0);
@@ -262,7 +262,7 @@ public final class ResponseTest {
     }
 
     private static void pollLeavesTheLatest() {
-        IdentityIssuer x = synced();
+        Issuer x = synced();
         x.watch(0, 3);
         x.poll(0);
         x.fetch(0, 6);
@@ -279,7 +279,7 @@ public final class ResponseTest {
     }
 
     private static void watchersApart() {
-        IdentityIssuer x = synced();
+        Issuer x = synced();
         x.attest(3, 0);
         x.watch(0, 6);
         x.watch(1, 6);
