@@ -14,6 +14,7 @@ final class Book {
     private final Due due;
     private final Map<String, StringBuilder> unquoted = new LinkedHashMap<>();
     private final Map<String, String> sections = new LinkedHashMap<>();
+    private int quotes;
 
     Book(Due due) throws IOException {
         this.due = due;
@@ -30,6 +31,7 @@ final class Book {
     }
 
     Sentence sentence(String section, String words) {
+        quotes++;
         if (!sections.isEmpty()) {
             quote(section, words);
         }
@@ -46,6 +48,7 @@ final class Book {
 
     /** The first line of a promise's section is its declaration, which FaceTest looks at. */
     void end() {
+        System.out.println(quotes + " tests, each of a sentence that it quotes");
         unquoted.forEach((section, left) -> {
             if (section.equals("Terms") || section.startsWith("Promise")) {
                 String words = left.toString().replaceFirst("^`[^`]*`:", "").trim();

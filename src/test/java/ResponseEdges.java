@@ -20,6 +20,7 @@ final class ResponseEdges {
         fetch();
         watch();
         pollLike();
+        pollOneDifference();
         pollOther();
         pollMissing();
         svid();
@@ -244,6 +245,43 @@ final class ResponseEdges {
         x.sync(0);
         s.is("both denied, with another bundle kept", x.poll(0), 0);
         s.refused("a poll without news", Situations::busy, y -> y.poll(0), 0);
+    }
+
+    private void pollOneDifference() {
+        s = book.sentence("Promise 11: poll", "(the same certificates, keys and foreign bundles; both denied);");
+        Issuer x = Issuer.withIds(32, 3);
+        x.entry(2, 1, 1, 64, 1);
+        x.attest(1, 0);
+        x.watch(0, 1);
+        x.tick(20);
+        x.prepare();
+        x.activate();
+        x.sync(0);
+        s.is("the first time", x.poll(0), 1);
+        x.entry(3, 1, 1, 64, 1);
+        x.sync(0);
+        s.is("a certificate more, behind the other", x.poll(0), 2);
+        x.remove(1);
+        x.sync(0);
+        s.is("a certificate less", x.poll(0), 1);
+        x.foreign(0, true);
+        x.sync(0);
+        s.is("a foreign bundle more", x.poll(0), 1);
+        s.is("it is told", x.friends(), 1);
+        x.tick(11);
+        s.is("none is renewed", x.sync(0), 0);
+        s.is("at 31 key 0 is good", x.poll(0), 0);
+        x.tick(1);
+        s.is("at 32 the agent still keeps it", x.poll(0), 0);
+        s.is("none is renewed", x.sync(0), 0);
+        s.is("the first key less", x.poll(0), 1);
+        s.is("key 1 is the first now", x.key(0), 1);
+        s.is("and the only one", x.key(1), MISSING);
+        x.prepare();
+        x.sync(0);
+        s.is("a key more", x.poll(0), 1);
+        s.is("behind the other", x.key(1), 2);
+        s.is("no news", x.poll(0), 0);
     }
 
     private void pollOther() {

@@ -59,6 +59,7 @@ final class VerifyEdges {
         s.is("expired", x.verify(Forge.certificate(1, 0, 1, 99, ID)), EXPIRED);
         s.is("used up, too", x.id("spiffe://o"), 0);
         refused("a right certificate changes nothing, too", Situations::idle, right(), 1);
+        refused("nor does one of a serial to come", Situations::idle, Forge.certificate(1000, 0, 0, 99, ID), 1000);
     }
 
     private void bytesFromTheFront() {
@@ -139,6 +140,8 @@ final class VerifyEdges {
         is("as long as what is left", with(bytes, 17, left), -1 - 30);
         is("longer than what is left", with(bytes, 17, left + 1), -1 - 17);
         is("length 255", with(bytes, 17, 255), -1 - 17);
+        is("length 3, as the byte behind an ID, with two left", Forge.join(Arrays.copyOf(bytes, 17), new int[] {3, 2, 7}),
+            -1 - 17);
         is("nothing is left, length 0", with(Arrays.copyOf(bytes, 18), 17, 0), -1 - 18);
         is("nothing is left, length 1", with(Arrays.copyOf(bytes, 18), 17, 1), -1 - 17);
         is("one character is left, length 1", with(Arrays.copyOf(bytes, 19), 17, 1), -1 - 19);
@@ -159,8 +162,10 @@ final class VerifyEdges {
         id("spiffe://o/" + "x".repeat(27) + "/..x", 40);
         is("40 characters", Forge.certificate(1, 0, 0, 99, "spiffe://o/" + "x".repeat(29)), 1);
         is("a domain of 12", Forge.certificate(1, 0, 0, 99, "spiffe://123456789012"), 1);
-        is("a dot behind the ID is none of its last segment", with(Forge.certificate(1, 0, 0, 99, "spiffe://o/."), 30, '.'),
+        is("it ends in its scheme, though the right characters follow", with(bytes, 17, 5), -1 - 23);
+        is("a letter behind the ID is none of its last segment", with(Forge.certificate(1, 0, 0, 99, "spiffe://o/."), 30, 'x'),
             -1 - 29);
+        is("a dot behind the ID is none, too", with(Forge.certificate(1, 0, 0, 99, "spiffe://o/.."), 31, '.'), -1 - 29);
         refused("an ID that is too long", Situations::idle, with(bytes, 17, left + 1), -1 - 17);
         refused("an ID with an error", Situations::idle, Forge.certificate(1, 0, 0, 99, "spiffe://o/."), -1 - 29);
         refused("an ID that was never read", Situations::idle, Forge.certificate(1, 0, 0, 99, "spiffe://o/y"), 1);
