@@ -13,7 +13,6 @@ final class BufferAndIdEdges {
     }
 
     void run() {
-        calls();
         bufferRoom();
         bufferBytes();
         put();
@@ -38,17 +37,6 @@ final class BufferAndIdEdges {
 
     private void good(String text) {
         s.is("id of " + text, new Issuer(64).id(text), 0);
-    }
-
-    private void calls() {
-        s = book.sentence("What it is", "An object is used for at most 512 calls after it has been made; "
-            + "what later calls answer is free.");
-        Issuer x = new Issuer(256);
-        for (int call = 1; call < 512; call++) {
-            x.tick(64);
-        }
-        s.is("the 512th call", x.tick(64), 512 * 64);
-        s.is("calls", x.calls(), 512);
     }
 
     /** A certificate's front whose ID fills the buffer from place 18 on, when there are as many bytes as given. */

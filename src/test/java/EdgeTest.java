@@ -8,6 +8,7 @@ public final class EdgeTest {
     public static void main(String[] args) throws IOException {
         Due due = new Due();
         Book book = new Book(due);
+        new StoryEdges(book).run();
         new BufferAndIdEdges(book).run();
         new KeyEdges(book).run();
         new EntryEdges(book).run();

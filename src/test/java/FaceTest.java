@@ -1,42 +1,70 @@
+import java.io.IOException;
 import java.lang.reflect.Constructor;
 import java.lang.reflect.Field;
 import java.lang.reflect.Method;
 import java.lang.reflect.Modifier;
-import java.util.Arrays;
+import java.util.Set;
 import java.util.TreeSet;
 
-/** The public face: just the document's members, and its constants. */
+/** The public face: just the members that stand in the document, by their declarations. */
 public final class FaceTest {
-    private static final String[] METHODS = {
-        "boolean activate()", "boolean foreign(int, boolean)", "boolean put(int, int)", "boolean remove(int)",
-        "int attest(int, int)", "int entry(int, int, int, int, int)", "int fetch(int, int)", "int friends()",
-        "int id()", "int key(int)", "int poll(int)", "int prepare()", "int svid(int, int)", "int sync(int)",
-        "int tick(int)", "int verify()", "int watch(int, int)", "int written(int, int)"};
+    private static final Class<?> FACE = IdentityIssuer.class;
 
-    public static void main(String[] args) {
-        Due due = new Due();
-        due.is("final", Modifier.isFinal(IdentityIssuer.class.getModifiers()), true);
-        TreeSet<String> methods = new TreeSet<>();
-        for (Method m : IdentityIssuer.class.getDeclaredMethods()) {
-            if (!Modifier.isPrivate(m.getModifiers()) && !m.isSynthetic()) {
-                due.is("public " + m.getName(), Modifier.isPublic(m.getModifiers()), true);
-                String types = Arrays.toString(m.getParameterTypes());
-                methods.add(m.getReturnType() + " " + m.getName() + "(" + types.substring(1, types.length() - 1) + ")");
+    private final Due due = new Due();
+
+    public static void main(String[] args) throws ReflectiveOperationException, IOException {
+        FaceTest test = new FaceTest();
+        test.declarations();
+        test.constants();
+        test.classesInside();
+        test.privateNames();
+        test.due.end();
+    }
+
+    private void declarations() throws ReflectiveOperationException, IOException {
+        Set<String> promised = new TreeSet<>();
+        for (String line : new Pages(Pages.DOCUMENT).blocks("The public face", "java").get(0)) {
+            if (line.contains("public")) {
+                promised.add(withoutNames(line.replaceAll("[;{]", "").trim()));
             }
         }
-        due.text("methods", methods.toString(), new TreeSet<>(Arrays.asList(METHODS)).toString());
-        TreeSet<String> fields = new TreeSet<>();
-        for (Field f : IdentityIssuer.class.getDeclaredFields()) {
-            if (!Modifier.isPrivate(f.getModifiers())) {
-                fields.add(f.toString().replaceAll("IdentityIssuer\\.", ""));
+        due.is("declarations in the document: the class, 7 constants, 1 constructor and 18 methods", promised.size(), 27);
+        due.text("the face", visible().toString(), promised.toString());
+        due.text("what it extends", FACE.getSuperclass().getName(), "java.lang.Object");
+        due.is("what it implements", FACE.getInterfaces().length, 0);
+    }
+
+    /** Of each parameter only the type: a compiled class does not tell its name. */
+    private static String withoutNames(String declaration) {
+        return declaration.replaceAll("(int|boolean) \\w+(?=[,)])", "$1").replace(", ", ",");
+    }
+
+    private static Set<String> visible() throws ReflectiveOperationException {
+        Set<String> visible = new TreeSet<>();
+        visible.add(Modifier.toString(FACE.getModifiers()) + " class " + FACE.getName());
+        for (Constructor<?> c : FACE.getDeclaredConstructors()) {
+            if (isVisible(c.getModifiers())) {
+                visible.add(c.toString());
             }
         }
-        due.is("constants", fields.size(), 7);
-        for (String field : fields) {
-            due.is(field, field.startsWith("public static final int "), true);
+        for (Method m : FACE.getDeclaredMethods()) {
+            if (isVisible(m.getModifiers())) {
+                visible.add(m.toString().replace("IdentityIssuer.", ""));
+            }
         }
-        Constructor<?>[] constructors = IdentityIssuer.class.getConstructors();
-        due.is("constructors", constructors.length, 1);
+        for (Field f : FACE.getDeclaredFields()) {
+            if (isVisible(f.getModifiers())) {
+                visible.add(f.toString().replace("IdentityIssuer.", "") + " = " + f.get(null));
+            }
+        }
+        return visible;
+    }
+
+    private static boolean isVisible(int modifiers) {
+        return !Modifier.isPrivate(modifiers);
+    }
+
+    private void constants() {
         due.is("MISSING", IdentityIssuer.MISSING, -1001);
         due.is("WRONG", IdentityIssuer.WRONG, -1002);
         due.is("FULL", IdentityIssuer.FULL, -1003);
@@ -44,6 +72,25 @@ public final class FaceTest {
         due.is("EXPIRED", IdentityIssuer.EXPIRED, -1005);
         due.is("UNKNOWN", IdentityIssuer.UNKNOWN, -1006);
         due.is("FORGED", IdentityIssuer.FORGED, -1007);
-        due.end();
+    }
+
+    private void classesInside() {
+        for (Class<?> inside : FACE.getDeclaredClasses()) {
+            int modifiers = inside.getModifiers();
+            due.is(inside + " is static", Modifier.isStatic(modifiers), true);
+            due.is(inside + " can be seen from outside", Modifier.isPublic(modifiers) || Modifier.isProtected(modifiers), false);
+        }
+    }
+
+    private void privateNames() {
+        Set<String> names = new TreeSet<>();
+        for (Method m : FACE.getMethods()) {
+            names.add(m.getName());
+        }
+        for (Method m : FACE.getDeclaredMethods()) {
+            if (!isVisible(m.getModifiers())) {
+                due.is("private " + m.getName() + " has the name of a public one", names.contains(m.getName()), false);
+            }
+        }
     }
 }

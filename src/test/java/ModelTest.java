@@ -41,9 +41,14 @@ public final class ModelTest {
             is("attest(" + id + ", 7)", x.attest(id, 7), m.attest(id, 7));
             is("watch(" + (id - 1) + ", 7)", x.watch(id - 1, 7), m.watch(id - 1, 7));
         }
+        // No step takes more than 110 calls; those of the last ones take one each, so that a run ends with the 512th.
         while (calls < CALLS - 110) {
             step(random.nextInt(100));
         }
+        while (calls < CALLS) {
+            step(random.nextBoolean() ? 22 + random.nextInt(32) : 83 + random.nextInt(15));
+        }
+        due.is(at + "calls", calls, CALLS);
     }
 
     private void is(String call, int got, int want) {
