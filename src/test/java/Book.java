@@ -14,21 +14,27 @@ final class Book {
 
     Book(Due due) throws IOException {
         this.due = due;
-        new Pages(Pages.DOCUMENT).sections().forEach((heading, lines) -> {
+        Pages.document().ifPresent(document -> document.sections().forEach((heading, lines) -> {
             String text = lines.replaceAll("\\s+", " ").trim();
             sections.put(heading, text);
             unquoted.put(heading, new StringBuilder(text));
-        });
+        }));
     }
 
     Sentence sentence(String section, String words) {
         quotes++;
+        if (!sections.isEmpty()) {
+            quote(section, words);
+        }
+        return new Sentence(due, section + ", \"" + words + "\"");
+    }
+
+    private void quote(String section, String words) {
         int from = sections.getOrDefault(section, "").indexOf(words);
         due.is("\"" + words + "\" stands in the document under \"" + section + "\"", from >= 0, true);
         if (from >= 0) {
             unquoted.get(section).replace(from, from + words.length(), " ".repeat(words.length()));
         }
-        return new Sentence(due, section + ", \"" + words + "\"");
     }
 
     /** The first line of a promise's section is its declaration, which FaceTest looks at. */

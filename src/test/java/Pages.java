@@ -5,21 +5,35 @@ import java.util.ArrayList;
 import java.util.LinkedHashMap;
 import java.util.List;
 import java.util.Map;
+import java.util.Optional;
 import java.util.regex.Matcher;
 import java.util.regex.Pattern;
 
 /** A text in sections with headings, as the document and README.md are. */
 final class Pages {
-    static final Path DOCUMENT = Path.of("../shared/DOC.md");
-    static final Path README = Path.of("README.md");
+    private static final Path DOCUMENT = Path.of("../shared/DOC.md");
+    private static final Path README = Path.of("README.md");
 
     private final Map<String, String> sections = new LinkedHashMap<>();
 
-    Pages(Path file) throws IOException {
-        for (String part : Files.readString(file).split("(?m)^## ")) {
+    private Pages(String text) {
+        for (String part : text.split("(?m)^## ")) {
             int end = part.indexOf('\n');
             sections.put(part.substring(0, end), part.substring(end + 1));
         }
+    }
+
+    static Pages readme() throws IOException {
+        return new Pages(Files.readString(README));
+    }
+
+    /** Without it the class can be tested all the same, only not by the document's words. */
+    static Optional<Pages> document() throws IOException {
+        if (!Files.isReadable(DOCUMENT)) {
+            System.out.println(DOCUMENT + " is not here: nothing is looked up in it");
+            return Optional.empty();
+        }
+        return Optional.of(new Pages(Files.readString(DOCUMENT)));
     }
 
     Map<String, String> sections() {

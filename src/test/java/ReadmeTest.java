@@ -3,6 +3,7 @@ import java.nio.file.Files;
 import java.nio.file.Path;
 import java.util.ArrayList;
 import java.util.List;
+import java.util.Optional;
 import java.util.Set;
 import java.util.TreeSet;
 import java.util.regex.Matcher;
@@ -19,8 +20,8 @@ public final class ReadmeTest {
     private static final Pattern ANSWERED = Pattern.compile("System\\.out\\.println\\((.*)\\); +// (-?\\w+)(: .*)?");
 
     private final Due due = new Due();
-    private final Pages readme = new Pages(Pages.README);
-    private final Pages document = new Pages(Pages.DOCUMENT);
+    private final Pages readme = Pages.readme();
+    private final Optional<Pages> document = Pages.document();
 
     private ReadmeTest() throws IOException {
     }
@@ -80,10 +81,10 @@ public final class ReadmeTest {
         due.is("exit code when the example's calls are counted (" + outcome.errors() + ")", outcome.exitCode(), 0);
     }
 
-    /** The members as they stand in the document's face: name(parameter, ..). */
-    private List<String> face() {
+    /** The members of the face: name(parameter, ..). */
+    private static List<String> face() {
         List<String> face = new ArrayList<>();
-        for (String line : document.blocks("The public face", "java").get(0)) {
+        for (String line : FaceTest.DECLARED) {
             Matcher member = Pattern.compile("public .*?(\\w+\\(.*\\));").matcher(line);
             if (member.find()) {
                 face.add(member.group(1).replaceAll("(int|boolean) ", ""));
@@ -114,9 +115,8 @@ public final class ReadmeTest {
             }
         }
         due.is("constants in README.md", answers.size(), 7);
-        for (String answer : answers) {
-            due.is("the document has " + answer, document.section("Terms").contains(answer), true);
-        }
+        document.ifPresent(pages -> answers.forEach(answer ->
+            due.is("the document has " + answer, pages.section("Terms").contains(answer), true)));
     }
 
     private void tableOfTests() throws IOException {
@@ -132,9 +132,11 @@ public final class ReadmeTest {
         Set<String> there = new TreeSet<>(sources());
         there.removeIf(name -> !name.endsWith("Test"));
         due.text("the table of tests", named.toString(), there.toString());
-        Set<String> made = new TreeSet<>(document.sections().keySet());
-        made.removeIf(heading -> !heading.startsWith("Promise "));
-        due.text("the promises in the table of tests", promises.toString(), made.toString());
+        document.ifPresent(pages -> {
+            Set<String> made = new TreeSet<>(pages.sections().keySet());
+            made.removeIf(heading -> !heading.startsWith("Promise "));
+            due.text("the promises in the table of tests", promises.toString(), made.toString());
+        });
     }
 
     private static List<String> sources() throws IOException {

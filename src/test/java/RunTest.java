@@ -18,7 +18,7 @@ public final class RunTest {
 
     private final Due due = new Due();
     private final List<Case> cases = new ArrayList<>();
-    private final String command = new Pages(Pages.README).blocks(RUN, "sh").get(0).get(0);
+    private final String command = Pages.readme().blocks(RUN, "sh").get(0).get(0);
 
     private RunTest() throws IOException {
     }
@@ -36,7 +36,7 @@ public final class RunTest {
 
     /** What the cases below show must be what README.md says. */
     private void words() throws IOException {
-        String text = new Pages(Pages.README).section(RUN).replaceAll("\\s+", " ");
+        String text = Pages.readme().section(RUN).replaceAll("\\s+", " ");
         String[] said = {"compiles the class with the tests under `src/test/java` and runs each `*Test`, then does so with "
             + "each test under `../shared/tests`.", "ends with the line `all tests passed` and exit code 0; or with exit "
             + "code 1 if one fails (each one that does is told by a line `FAILED:` and its name, and the others run all the "
