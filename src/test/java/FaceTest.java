@@ -95,7 +95,8 @@ public final class FaceTest {
         }
         for (Field f : FACE.getDeclaredFields()) {
             if (isVisible(f.getModifiers())) {
-                visible.add(f.toString().replace("IdentityIssuer.", "") + " = " + f.get(null));
+                String value = Modifier.isStatic(f.getModifiers()) ? " = " + f.get(null) : "";
+                visible.add(f.toString().replace("IdentityIssuer.", "") + value);
             }
         }
         return visible;
